@@ -129,7 +129,7 @@ public final class BrakeCurve {
         if (what == 15) {
             return line.aheadOf(train);
         }
-        return what < 8 ? line.trains[train].fact(what) : line.trains[train].record(what);
+        return what < 8 ? line.trains[train].numberNow(what) : line.trains[train].numberKept(what);
     }
 
     public int stops(int train, int speed) throws IndexOutOfBoundsException, IllegalArgumentException {
@@ -214,7 +214,6 @@ public final class BrakeCurve {
         }
         trial.copyFrom(line);
         trial.trains[train].leastGap = NO_GAP;
-        trial.trains[ahead].speed = 0;
         for (int second = 1; second <= seconds; second++) {
             trial.goOn(ahead);
         }
@@ -411,7 +410,7 @@ public final class BrakeCurve {
         int nextStation(int stations) {
             int next = NONE;
             for (int station = 0; station < stationCount; station++) {
-                boolean isOne = (stations & 1 << station) != 0;
+                boolean isOne = (stations & (1 << station)) != 0;
                 if (isOne && (next == NONE || stationMetres[station] < stationMetres[next])) {
                     next = station;
                 }
@@ -533,7 +532,7 @@ public final class BrakeCurve {
             return leastGap == NO_GAP ? NONE : leastGap;
         }
 
-        int fact(int what) {
+        int numberNow(int what) {
             switch (what) {
                 case 0:
                     return head;
@@ -552,7 +551,7 @@ public final class BrakeCurve {
             }
         }
 
-        int record(int what) {
+        int numberKept(int what) {
             switch (what) {
                 case 8:
                     return knownHead;
