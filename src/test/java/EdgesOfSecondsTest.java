@@ -58,6 +58,7 @@ public final class EdgesOfSecondsTest {
         gapOf0IsNoCrash();
         gapBelow0IsACrash();
         bothThatCrashedStayForGood();
+        stationsOfOneThatCrashedAreStillToCome();
         aThirdOneCrashes();
         oneThatCrashedOverrunsUntilItGetsItsAuthority();
     }
@@ -596,6 +597,24 @@ public final class EdgesOfSecondsTest {
         BrakeCurve y = Lines.crashedAtTheEnd(50, 72);
         Check.due("one that crashed with a speed stays", 3002, y.ofTrain(1, 0));
         Check.due("and has none", 0, y.ofTrain(1, 2));
+    }
+
+    private static void stationsOfOneThatCrashedAreStillToCome() {
+        BrakeCurve x = Lines.of(40, 2);
+        x.station(1000, 5);
+        x.station(199, 60);
+        x.train(20, 4, 3, true);
+        Lines.passUntilStopped(x, 1);
+        x.train(20, 4, 3, false);
+        x.pass(8);
+        x.section(0, 40, -2, true);
+        x.section(1, 40, -2, true);
+        Lines.pass(x, 303);
+        Check.due("both crashed", 2, x.many(3));
+        Check.due("the next station is to come for good", 0, x.ofTrain(0, 6));
+        Check.due("it missed none", 0, x.ofTrain(0, 13));
+        Check.due("it may go as far as that", 40, x.may(0));
+        Check.due("but does not", 199, x.ofTrain(0, 0));
     }
 
     /** The rear of train 1, which crashed, is at 164; train 2 comes to it as train 1 came to train 0. */

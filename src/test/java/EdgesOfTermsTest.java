@@ -9,6 +9,7 @@ public final class EdgesOfTermsTest {
     private static void theLine() {
         sectionsAreOf150Metres();
         metresAbove2999AreOfTheSection19();
+        metresAbove2999AreOfTheSection19AsTheRearIsBelowIt();
         limitIsFrom1To40();
         limitIs40AtFirst();
         gradeIs0AtFirst();
@@ -87,6 +88,22 @@ public final class EdgesOfTermsTest {
         Check.due("head at 3001: radio again", 3001, x.ofTrain(0, 8));
         Lines.pass(x, 2999 - x.ofTrain(0, 1));
         Check.due("rear at 2999: in the section 19", 1, x.ofSection(19, 3));
+    }
+
+    private static void metresAbove2999AreOfTheSection19AsTheRearIsBelowIt() {
+        BrakeCurve x = Lines.crawling();
+        x.train(200, 4, 1, false);
+        Lines.pass(x, 2811);
+        Check.due("head", 3010, x.ofTrain(0, 0));
+        Check.due("in the section 17", 0, x.ofSection(17, 3));
+        Check.due("in the section 18", 1, x.ofSection(18, 3));
+        Check.due("in the section 19", 1, x.ofSection(19, 3));
+        x.section(17, 2, 0, true);
+        x.section(18, 9, 0, true);
+        x.section(19, 30, 0, true);
+        Check.due("limit of the section 18", 9, x.may(0));
+        x.section(19, 8, 0, true);
+        Check.due("limit of the section 19", 8, x.may(0));
     }
 
     private static void limitIsFrom1To40() {
